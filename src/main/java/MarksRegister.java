@@ -155,15 +155,20 @@ public final class MarksRegister {
 
     /** Promise 11. */
     public int oppose(int mark, int by, int day) {
-        if (markAt(mark) == null || markAt(by) == null || !isDay(day)
-                || !clashesAnywhere(by, mark, day)) {
+        if (markAt(mark) == null || markAt(by) == null || !isDay(day)) {
             return NONE;
         }
         elder.read(papers, mark, NONE, day);
-        if (day - elder.firstDay > DAYS_TO_OPPOSE) {
+        if (!elder.isEntered() || day - elder.firstDay > DAYS_TO_OPPOSE) {
             return NONE;
         }
-        return paper(STRIKE, mark, 0, day);
+        for (int country = 0; country < COUNTRIES; country++) {
+            findClash(by, mark, country, day);
+            if (found.isThere()) {
+                return paper(STRIKE, mark, 0, day);
+            }
+        }
+        return NONE;
     }
 
     /** Promise 12. */
@@ -320,8 +325,11 @@ public final class MarksRegister {
         younger.read(papers, entered, country, day);
         int left = i;
         for (int a = 0; a < markCount; a++) {
+            if (haveOneOwner(a, entered)) {
+                continue;
+            }
             elder.read(papers, a, country, day);
-            if (!haveOneOwner(a, entered) && standsNearYounger() && areAlike(a, entered)) {
+            if (standsNearYounger() && areAlike(a, entered)) {
                 if (left == 0) {
                     return a;
                 }
@@ -450,26 +458,19 @@ public final class MarksRegister {
         return papers.tell(JOIN, mark, person, day) ? BY_GROUP : NO_CLAIM;
     }
 
-    private boolean clashesAnywhere(int a, int b, int day) {
-        for (int country = 0; country < COUNTRIES; country++) {
-            findClash(a, b, country, day);
-            if (found.isThere()) {
-                return true;
-            }
-        }
-        return false;
-    }
-
-    /** Fills found with the goods over which a CLASHES with b; the dear likeness is asked last. */
+    /** Fills found with the goods over which a CLASHES with b; what is dear to ask comes last. */
     private void findClash(int a, int b, int country, int day) {
         found.clear();
         Mark n = markAt(b);
-        if (n == null || haveOneOwner(a, b) || papers.tell(LEAVE, a, n.owner, day)) {
+        if (n == null || haveOneOwner(a, b)) {
             return;
         }
         elder.read(papers, a, country, day);
+        if (!elder.standsForAny()) {
+            return;
+        }
         younger.read(papers, b, country, day);
-        if (!elder.standsForAny() || !younger.standsForAny() || !areAlike(a, b)) {
+        if (!younger.standsForAny() || papers.tell(LEAVE, a, n.owner, day) || !areAlike(a, b)) {
             return;
         }
         for (int k = 0; k < younger.count; k++) {
@@ -610,8 +611,8 @@ public final class MarksRegister {
     private static final class NearPairs {
         static final int MOST = 100;
 
-        private final int[] lows = new int[MOST];
-        private final int[] highs = new int[MOST];
+        private final int[] ones = new int[MOST];
+        private final int[] others = new int[MOST];
         private final int[] values = new int[MOST];
         private int count = 0;
 
@@ -637,10 +638,8 @@ public final class MarksRegister {
         }
 
         private int find(int g, int h) {
-            int low = Math.min(g, h);
-            int high = Math.max(g, h);
             for (int i = 0; i < count; i++) {
-                if (lows[i] == low && highs[i] == high) {
+                if ((ones[i] == g && others[i] == h) || (ones[i] == h && others[i] == g)) {
                     return i;
                 }
             }
@@ -651,8 +650,8 @@ public final class MarksRegister {
             if (count >= MOST) {
                 return false;
             }
-            lows[count] = Math.min(g, h);
-            highs[count] = Math.max(g, h);
+            ones[count] = g;
+            others[count] = h;
             values[count] = v;
             count++;
             return true;
@@ -663,8 +662,8 @@ public final class MarksRegister {
                 return;
             }
             count--;
-            lows[i] = lows[count];
-            highs[i] = highs[count];
+            ones[i] = ones[count];
+            others[i] = others[count];
             values[i] = values[count];
         }
     }

@@ -678,6 +678,41 @@ public final class PapersTest {
         watching(r);
     }
 
+    private static void behindTheLastDay() {
+        MarksRegister r = register(0, 0);
+        enters(r, 0, 8, 0, 59990);
+        enters(r, 1, 8, 0, 60000);
+        clashes(r, 0, 1, 0, 60000, 8, 8);
+        noClash(r, 0, 1, 0, 60001);
+        DUE.is("first", r.first(1, 0, 60000), 0);
+        DUE.is("first", r.first(1, 0, 60001), -1);
+        mayBear(r, 5, 1, 8, 60000, 10);
+        mayBear(r, 5, 1, 8, 60001, -1);
+        state(r, 1, 60000, 60000, 63650, 0, 0, 1, 1);
+        DUE.is("state", r.state(1, 60001, 0), -1);
+        rights(r, 1, 8, 0, 60001, -1, -1, -1);
+        DUE.is("oppose", r.oppose(1, 0, 60001), -1);
+        DUE.is("oppose", r.oppose(1, 0, 60000), 4);
+    }
+
+    /** Told pairs stay told when another one, told ahead of them, is taken back. */
+    private static void pairsTakenBack() {
+        MarksRegister r = register(0, 0);
+        enters(r, 0, 8, 0, 1);
+        enters(r, 1, 9, 0, 2);
+        r.near(30, 31, 900);
+        r.near(40, 41, 900);
+        r.near(9, 8, 900);
+        clashes(r, 0, 1, 0, 2, 8, 9);
+        r.near(31, 30, 0);
+        clashes(r, 0, 1, 0, 2, 8, 9);
+        r.near(8, 9, 499);
+        noClash(r, 0, 1, 0, 2);
+        r.near(8, 9, 0);
+        r.levels(700, 1);
+        noClash(r, 0, 1, 0, 2);
+    }
+
     public static void main(String[] args) {
         wrongPapers();
         papersOfGoods();
@@ -702,6 +737,8 @@ public final class PapersTest {
         mayBearAheadOfOthers();
         promise22();
         watchWithoutGoods();
+        behindTheLastDay();
+        pairsTakenBack();
         DUE.end();
     }
 }
