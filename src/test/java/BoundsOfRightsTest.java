@@ -276,6 +276,23 @@ public final class BoundsOfRightsTest {
         SAY.refused("B not entered there", Story.marks(0, 0).enters(0, 8, 0, 10).enters(1, 8, 1, 20), "clash 0 1 0 20");
     }
 
+    /** Both marks are for goods 8 and others; from some day on one of the two STANDS for its others alone. */
+    private static void clashOfTheseGoods() {
+        Story s = Story.marks(0, 0, 0).and("paper 0 0 9 10").enters(0, 8, 0, 10);
+        Story a = s.and("paper 6 0 9 1800; paper 0 1 9 1835").enters(1, 8, 0, 1835);
+        SAY.of(a).is("A STANDS for both", "clash 0 1 0 1835", BOTH).is("A STANDS for 9 alone", "clash 0 1 0 1836", 9 * 361)
+            .is("it is the first for 9", "first 1 0 1836", 0);
+        Story near = a.and("near 8 9 500");
+        SAY.of(near).is("A STANDS for both", "clash 0 1 0 1835", BOTH).is("A STANDS for 9 alone", "clash 0 1 0 1836", 9 * 360 + 8);
+        Story b = s.and("paper 0 1 9 20").enters(1, 8, 0, 20).and("paper 6 0 8 1800; paper 6 0 9 1800; paper 6 1 9 1800");
+        SAY.of(b).is("B STANDS for both", "clash 0 1 0 1845", BOTH).is("B STANDS for 9 alone", "clash 0 1 0 1846", 9 * 361);
+        SAY.is("B STANDS for 9 alone, near to 8", b.and("near 8 9 500"), "clash 0 1 0 1846", 8 * 360 + 9);
+        Story apart = Story.marks(0, 0).and("paper 0 0 9 10").enters(0, 8, 0, 10).and("paper 0 1 300 20").enters(1, 8, 0, 20)
+            .and("paper 6 0 8 1800; paper 6 0 9 1800; paper 6 1 300 1800");
+        SAY.edges("B STANDS for other goods alone", apart, "clash 0 1 0 %", 20, 1845);
+        SAY.edges("nor has it a first then", apart, "first 1 0 %", 20, 1845);
+    }
+
     private static void clashOfRights() {
         Story same = Story.marks(0, 0).enters(1, 8, 0, 20).enters(0, 8, 0, 20);
         SAY.of(same).is("of one day: the lower number", "clash 0 1 0 20", BOTH).is("not the higher", "clash 1 0 0 20", -1);
@@ -306,6 +323,10 @@ public final class BoundsOfRightsTest {
             .is("not ahead of B's ENTER", "clash 0 1 0 39", -1);
         Story given = Story.marks(0, 0).enters(0, 8, 0, 10).and("paper 3 0 8 20; paper 0 1 8 20; paper 1 1 0 20");
         SAY.is("A gave up on the day of B's RIGHT", given, "clash 0 1 0 20", BOTH);
+        Story others = Story.marks(0, 0).and("paper 0 0 7 10").enters(0, 8, 0, 10).and("paper 6 0 8 1800").enters(1, 8, 0, 1840)
+            .and("paper 3 0 7 1850");
+        SAY.of(others).is("A STOOD for 8 by then, not for 7", "clash 0 1 0 1850", BOTH)
+            .is("A has given up 7 since", "clash 0 1 0 1851", BOTH).is("it is the first", "first 1 0 1851", 0);
     }
 
     private static void clashOfLeaves() {
@@ -355,6 +376,13 @@ public final class BoundsOfRightsTest {
         SAY.is("the earliest of its RIGHTS", both, "first 3 0 12", 2);
         SAY.is("the earliest, told last", regained(s).enters(3, 8, 0, 7), "first 3 0 7", 1);
         SAY.is("with LEAVE the next", both.and("paper 5 2 3 12"), "first 3 0 12", 1);
+    }
+
+    /** Mark 0 has the earlier RIGHT for 8, but from day 1836 on it STANDS for 9 alone, with a later one than mark 1. */
+    private static void firstOfTheseGoods() {
+        Story s = Story.marks(0, 0, 0).enters(0, 8, 0, 10).enters(1, 8, 0, 11).and("paper 0 0 9 12; near 8 9 500")
+            .and("paper 6 1 8 1700; paper 6 0 9 1700").enters(2, 8, 0, 1800);
+        SAY.of(s).is("the earlier RIGHT", "first 2 0 1835", 0).is("it STANDS no more for that", "first 2 0 1836", 1);
     }
 
     // Promise 21
@@ -472,6 +500,8 @@ public final class BoundsOfRightsTest {
         SAY.is("STANDS to its last day", later, "watch 0", 0);
         Story over = s.and("near 8 9 500").enters(0, 9, 0, 10).enters(1, 8, 0, 1836);
         SAY.is("not behind it", over, "watch 0", -1);
+        Story others = s.and("paper 0 0 300 10").enters(0, 9, 0, 10).and("paper 6 0 300 1800").enters(1, 9, 0, 1836);
+        SAY.is("STANDS for other goods alone", others, "watch 0", -1);
         Story none = s.and("paper 0 0 9 5; paper 1 0 1 5; paper 3 0 9 6").enters(1, 9, 0, 6).and("paper 1 0 0 7");
         SAY.is("nothing that the entered one HAS", none, "watch 0", -1);
         Story behind = s.enters(0, 9, 0, 10).and("paper 0 0 8 11").enters(1, 8, 0, 11).and("paper 0 1 7 12");
@@ -511,11 +541,13 @@ public final class BoundsOfRightsTest {
         clashOfLevels();
         clashOfKnownOnes();
         clashOfStanding();
+        clashOfTheseGoods();
         clashOfRights();
         clashOfThePast();
         clashOfLeaves();
         bordersOfFirst();
         firstOfMany();
+        firstOfTheseGoods();
         bordersOfMay();
         mayAnswers();
         mayNotForTheEarliest();

